@@ -713,6 +713,8 @@ public final class WinterWalk {
 
     /** All that is so on one DAY; with no VILLAGE there is no LAND. */
     private static final class Land {
+        private static final int MORE_THAN_ANY_NIGHTS = 1000000;
+
         int villages = 0;
         int roadsTold = 0;
         int walkers = 0;
@@ -875,25 +877,18 @@ public final class WinterWalk {
 
         int goesTo(int w) {
             int here = at[w];
+            int open = roads[here] & ~doorsShut;
             switch (kinds[w]) {
-                case SLOW: return day % 3 == 2 ? here : greatestOffer(openFrom(here), here);
-                case LIKES: return greatestOffer(openToLiking(w), here);
+                case SLOW: return day % 3 == 2 ? here : greatestOffer(open, here);
+                case LIKES: return greatestOffer(withoutWayBack(open, before[w]), here);
                 case SISTER: return fewestNights(here);
                 case EARLY: return fewestNights(fewestNights(here));
-                default: return greatestOffer(openFrom(here), here);
+                default: return greatestOffer(open, here);
             }
         }
 
-        private int openFrom(int village) {
-            return roads[village] & ~doorsShut;
-        }
-
-        private int openToLiking(int w) {
-            int open = openFrom(at[w]);
-            if (before[w] == NONE) {
-                return open;
-            }
-            int others = open & ~(1 << before[w]);
+        private static int withoutWayBack(int open, int back) {
+            int others = back == NONE ? open : open & ~(1 << back);
             return others != 0 ? others : open;
         }
 
@@ -910,9 +905,9 @@ public final class WinterWalk {
         }
 
         private int fewestNights(int here) {
-            int open = openFrom(here);
+            int open = roads[here] & ~doorsShut;
             int best = here;
-            int fewest = Integer.MAX_VALUE;
+            int fewest = MORE_THAN_ANY_NIGHTS;
             for (int v = 0; v < villages; v++) {
                 if ((open >> v & 1) != 0 && nightsIn[v] < fewest) {
                     best = v;

@@ -17,7 +17,7 @@ public final class LanguageTest {
     private static final String[] FORBIDDEN = {
         "throw", "throws", "try", "catch", "synchronized", "assert", "->", "::", "Exact\\w*\\(", "import static",
         "package", "protected", "record", "Random", "System\\.(?!arraycopy)", "Thread", "nanoTime", "hashCode",
-        "toString\\(\\)\\s*\\{", "while\\s*\\(true\\)"};
+        "(Integer|Long)\\.[A-Z]", "toString\\(\\)\\s*\\{", "while\\s*\\(true\\)"};
     private static final Set<String> FACE = new TreeSet<>(List.of(
         "row", "set", "copy", "drop", "feed", "land", "fault", "undo", "days", "offer", "door", "village",
         "walker", "ahead", "cold", "nights", "freezes", "warn", "lure", "keepsAway", "bid", "rests", "fits",

@@ -6,6 +6,7 @@ public final class OffersTest {
         lures();
         doors();
         bids();
+        theGreatestOfferIsBest();
         restless();
         wrongOnes();
         Due.end("OffersTest");
@@ -42,13 +43,14 @@ public final class OffersTest {
         away(pair, 0, 1, 0, 0);
         away(pair, 0, 2, 1, 1);
         away(pair, 1, 1, 1, 2);
-        // three ways lead on to 4, and its own door is shut for one price
+        // of three ways to 4 none has to be shut if its own door is
         WinterWalk ways = Due.told("f1;g0,0;g0,3;g0,2;g0,1;g0,9;r0,1;r0,2;r0,3;r1,4;r2,4;r3,4;o0;");
         away(ways, 4, 1, 0, 0);
         away(ways, 4, 2, 1, 16);
-        // 1 with nowhere else to go: three doors are too few for four ways
+        // three come at once, and one door keeps them all away
         WinterWalk inn = Due.told("f1;g0,0;g0,0;g0,0;g0,0;g0,0;r0,1;r0,2;r0,3;r0,4;o1;o2;o3;");
         away(inn, 0, 1, 1, 1);
+        // of two doors either of which would do, the one with the lesser bit
         WinterWalk least = Due.told("f1;g0,0;g0,5;g0,0;g0,9;r0,1;r1,3;r0,2;o0;");
         away(least, 3, 2, 1, 2);
         away(least, 3, 3, 1, 2);
@@ -81,6 +83,16 @@ public final class OffersTest {
         WinterWalk y = Due.told(FORK);
         y.days(6);
         best(y, 2, 1, 3, 6);
+    }
+
+    private static void theGreatestOfferIsBest() {
+        // by 20 it comes to 2 at once, and goes on to 4, 0, 1 for ever; by less it goes
+        // 3, 2, 5 round and round, and each time costs 9
+        WinterWalk x = Due.told("f1;g0,20;g0,0;c9,0;g0,20;g0,0;g0,0;r5,2;r5,3;r2,3;r3,4;r4,0;r4,1;r0,1;l5;");
+        best(x, 2, 50, 20, -29);
+        Due.due("2 would have more by 20 alone", x.rests(50) & 4, 4);
+        x.offer(2, 20);
+        Due.due("and then rests", x.rests(50) & 4, 0);
     }
 
     private static void best(WinterWalk x, int village, int n, int offer, int much) {
