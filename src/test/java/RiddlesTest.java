@@ -46,6 +46,10 @@ public final class RiddlesTest {
         WinterWalk home = Due.told("f1;g0,0;o0;");
         home.row(0, 0, 40);
         Due.due("24 nights", home.fits(0, 0, 16, 24), 62);
+        WinterWalk last = Due.told(PAIR + "o0;");
+        last.row(7, 0, 40);
+        last.set(7, 39, 1);
+        Due.due("the last ITEM of the last ROW", last.fits(0, 7, 39, 1), 2 + 4 + 8 + 16);
     }
 
     private static void fitsIsRefused() {
