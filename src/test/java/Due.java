@@ -35,6 +35,25 @@ final class Due {
         return x;
     }
 
+    /** The text is a LAND of that many VILLAGES. */
+    static void reads(String text, int villages) {
+        WinterWalk x = new WinterWalk();
+        feedAll(x, text);
+        due("land() of " + text, x.land(), villages);
+        due("fault() of " + text, x.fault(), 0);
+        due("the tape of " + text, x.count(8), 0);
+    }
+
+    /** The text has a FAULT at a place. */
+    static void faulty(String text, int place, int fault) {
+        WinterWalk x = new WinterWalk();
+        feedAll(x, text);
+        due("land() of " + text, x.land(), -1000100 - place);
+        due("fault() of " + text, x.fault(), fault);
+        due("no LAND from " + text, x.count(1), 0);
+        due("the tape of " + text, x.count(8), 0);
+    }
+
     /** A ROW with these ITEMS. */
     static void lay(WinterWalk x, int row, int lane, int... items) {
         x.row(row, lane, items.length);

@@ -1,7 +1,7 @@
 /** Promises 1, 6 to 8 and 36: a new object, the tape, LANDS and FAULTS, counts. */
 public final class TellingTest {
-    private static final String EIGHT = "f1;g0,0;g0,0;g0,0;g0,0;g0,0;g0,0;g0,0;g0,0;";
-    private static final String TWELVE = "r0,1;r0,2;r0,3;r0,4;r0,5;r0,6;r0,7;r1,2;r1,3;r1,4;r1,5;r1,6;";
+    private static final String EIGHT = Worlds.EIGHT;
+    private static final String TWELVE = Worlds.TWELVE;
 
     public static void main(String[] args) {
         nothingIsThereAtFirst();
@@ -77,75 +77,75 @@ public final class TellingTest {
         Due.due("roads", x.count(2), 12);
         Due.due("kind(0)", x.kind(0), 4);
         Due.due("kind(1)", x.kind(1), 3);
-        reads("f1;g0,0;", 1);
-        reads("f09;g0,0;", 1);
+        Due.reads("f1;g0,0;", 1);
+        Due.reads("f09;g0,0;", 1);
     }
 
     private static void faultsOfTheFirstKind() {
-        faulty("", 0, 1);
-        faulty("g0,0;", 0, 1);
-        faulty("F1;", 0, 1);
-        faulty("f", 1, 1);
-        faulty("ff", 1, 1);
-        faulty("f;", 1, 1);
-        faulty("f1", 2, 1);
-        faulty("f1,", 2, 1);
-        faulty("f111;", 1, 1);
-        faulty("f1234567;", 1, 1);
-        faulty("f001;", 1, 1);
-        faulty("111", 0, 1);
-        faulty("f1;", 3, 1);
-        faulty("f1;o0;", 3, 1);
-        faulty("f1;r0,1;", 3, 1);
-        faulty("f1;1", 3, 1);
-        faulty("f1; g0,0;", 3, 1);
-        faulty("f1;g0;0;", 5, 1);
-        faulty("f1;g,0;", 4, 1);
-        faulty("f1;g-1,0;", 4, 1);
-        faulty("f1;g0,0", 7, 1);
-        faulty("f1;g0,0;;", 8, 1);
-        faulty("f1;g0,0;x", 8, 1);
-        faulty("f1;g0,0;f1;", 8, 1);
-        faulty("f1;g0,0;" + (char) 255, 8, 1);
-        faulty("f1;g0,0;g0,0;r0,1;g0,0;", 18, 1);
-        faulty("f1;g0,0;g0,0;o0;g0,0;", 16, 1);
-        faulty("f1;g0,0;g0,0;o0;r0,1;", 16, 1);
-        faulty("f1;g0,0;g0,0;r0;", 15, 1);
-        faulty("f1;g0,0;g0,0;r0,1", 17, 1);
-        faulty("f1;g0,0;o", 9, 1);
-        faulty("f1;g0,0;o0", 10, 1);
-        faulty("f1;g0,0;o0,", 10, 1);
-        faulty("f1;g0,000;", 6, 1);
+        Due.faulty("", 0, 1);
+        Due.faulty("g0,0;", 0, 1);
+        Due.faulty("F1;", 0, 1);
+        Due.faulty("f", 1, 1);
+        Due.faulty("ff", 1, 1);
+        Due.faulty("f;", 1, 1);
+        Due.faulty("f1", 2, 1);
+        Due.faulty("f1,", 2, 1);
+        Due.faulty("f111;", 1, 1);
+        Due.faulty("f1234567;", 1, 1);
+        Due.faulty("f001;", 1, 1);
+        Due.faulty("111", 0, 1);
+        Due.faulty("f1;", 3, 1);
+        Due.faulty("f1;o0;", 3, 1);
+        Due.faulty("f1;r0,1;", 3, 1);
+        Due.faulty("f1;1", 3, 1);
+        Due.faulty("f1; g0,0;", 3, 1);
+        Due.faulty("f1;g0;0;", 5, 1);
+        Due.faulty("f1;g,0;", 4, 1);
+        Due.faulty("f1;g-1,0;", 4, 1);
+        Due.faulty("f1;g0,0", 7, 1);
+        Due.faulty("f1;g0,0;;", 8, 1);
+        Due.faulty("f1;g0,0;x", 8, 1);
+        Due.faulty("f1;g0,0;f1;", 8, 1);
+        Due.faulty("f1;g0,0;" + (char) 255, 8, 1);
+        Due.faulty("f1;g0,0;g0,0;r0,1;g0,0;", 18, 1);
+        Due.faulty("f1;g0,0;g0,0;o0;g0,0;", 16, 1);
+        Due.faulty("f1;g0,0;g0,0;o0;r0,1;", 16, 1);
+        Due.faulty("f1;g0,0;g0,0;r0;", 15, 1);
+        Due.faulty("f1;g0,0;g0,0;r0,1", 17, 1);
+        Due.faulty("f1;g0,0;o", 9, 1);
+        Due.faulty("f1;g0,0;o0", 10, 1);
+        Due.faulty("f1;g0,0;o0,", 10, 1);
+        Due.faulty("f1;g0,000;", 6, 1);
     }
 
     private static void faultsOfNumbers() {
-        faulty("f0;g0,0;", 1, 2);
-        faulty("f10;g0,0;", 1, 2);
-        faulty("f00", 1, 2);
-        faulty("f1;g10,0;", 4, 2);
-        faulty("f1;c10,0;", 4, 2);
-        faulty("f1;g9,21;", 6, 2);
-        faulty("f1;g0,0;g0,0;r2,0;", 14, 2);
-        faulty("f1;g0,0;g0,0;r0,2;", 16, 2);
-        faulty("f1;g0,0;g0,0;r1,1;", 16, 2);
-        faulty("f1;g0,0;g0,0;r0,1;r0,1;", 21, 2);
-        faulty("f1;g0,0;g0,0;r0,1;r1,0#", 21, 2);
-        faulty("f1;g0,0;g0,0;r2,2", 14, 2);
-        faulty("f1;g0,0;g0,0;o2;", 14, 2);
-        faulty("f1;g0,0;o99", 9, 2);
+        Due.faulty("f0;g0,0;", 1, 2);
+        Due.faulty("f10;g0,0;", 1, 2);
+        Due.faulty("f00", 1, 2);
+        Due.faulty("f1;g10,0;", 4, 2);
+        Due.faulty("f1;c10,0;", 4, 2);
+        Due.faulty("f1;g9,21;", 6, 2);
+        Due.faulty("f1;g0,0;g0,0;r2,0;", 14, 2);
+        Due.faulty("f1;g0,0;g0,0;r0,2;", 16, 2);
+        Due.faulty("f1;g0,0;g0,0;r1,1;", 16, 2);
+        Due.faulty("f1;g0,0;g0,0;r0,1;r0,1;", 21, 2);
+        Due.faulty("f1;g0,0;g0,0;r0,1;r1,0#", 21, 2);
+        Due.faulty("f1;g0,0;g0,0;r2,2", 14, 2);
+        Due.faulty("f1;g0,0;g0,0;o2;", 14, 2);
+        Due.faulty("f1;g0,0;o99", 9, 2);
     }
 
     private static void faultsOfRoom() {
-        faulty(EIGHT + "g0,0;", 43, 3);
-        faulty(EIGHT + "c", 43, 3);
-        faulty(EIGHT + TWELVE + "r1,7;", 103, 3);
-        faulty(EIGHT + TWELVE + "r0,1;", 103, 3);
-        faulty(EIGHT + TWELVE + "g", 103, 1);
-        faulty(EIGHT + TWELVE + "o0;r", 106, 1);
-        faulty("f1;g0,0;o0;o0;o0;o0;", 17, 3);
-        faulty("f1;g0,0;o0;s0;l0;e", 17, 3);
-        faulty("f1;g0,0;o0;s0;l0;g", 17, 1);
-        faulty("f1;g0,0;o0;s0;l0;x", 17, 1);
+        Due.faulty(EIGHT + "g0,0;", 43, 3);
+        Due.faulty(EIGHT + "c", 43, 3);
+        Due.faulty(EIGHT + TWELVE + "r1,7;", 103, 3);
+        Due.faulty(EIGHT + TWELVE + "r0,1;", 103, 3);
+        Due.faulty(EIGHT + TWELVE + "g", 103, 1);
+        Due.faulty(EIGHT + TWELVE + "o0;r", 106, 1);
+        Due.faulty("f1;g0,0;o0;o0;o0;o0;", 17, 3);
+        Due.faulty("f1;g0,0;o0;s0;l0;e", 17, 3);
+        Due.faulty("f1;g0,0;o0;s0;l0;g", 17, 1);
+        Due.faulty("f1;g0,0;o0;s0;l0;x", 17, 1);
     }
 
     private static void aLandStandsInPlaceOfAnother() {
@@ -176,20 +176,5 @@ public final class TellingTest {
         Due.due("the village that was", x.village(2, 0), Due.BAD);
         Due.due("the walker that was", x.walker(1, 0), Due.BAD);
         Due.due("undo()", x.undo(), Due.STATE);
-    }
-
-    private static void reads(String text, int villages) {
-        WinterWalk x = new WinterWalk();
-        Due.feedAll(x, text);
-        Due.due("land() of " + text, x.land(), villages);
-    }
-
-    private static void faulty(String text, int place, int fault) {
-        WinterWalk x = new WinterWalk();
-        Due.feedAll(x, text);
-        Due.due("land() of " + text, x.land(), -1000100 - place);
-        Due.due("fault() of " + text, x.fault(), fault);
-        Due.due("no LAND from " + text, x.count(1), 0);
-        Due.due("the tape of " + text, x.count(8), 0);
     }
 }
