@@ -246,14 +246,9 @@ public final class GoingEdgesTest {
         Due.due("not back by a shut door", end.walker(0, 2), 1);
     }
 
-    /** One who goes along eight VILLAGES, and back again. */
-    private static WinterWalk alongEight(int lasts) {
-        return Due.told("f" + lasts + ";g0,0;g0,0;g0,0;g0,0;g0,0;g0,0;g0,0;g0,0;r0,1;r1,2;r2,3;r3,4;r4,5;r5,6;r6,7;l0;");
-    }
-
     // "FROST of each VILLAGE that has any is 1 less"; "FROST is LASTS there"
     private static void frostThatLastsOneDay() {
-        WinterWalk x = alongEight(1);
+        WinterWalk x = Worlds.alongEight(1);
         Due.due("nothing at first", x.cold(0, 2), 0);
         for (int d = 1; d <= 7; d++) {
             x.days(1);
@@ -265,7 +260,7 @@ public final class GoingEdgesTest {
     }
 
     private static void frostThatLastsNineDays() {
-        WinterWalk x = alongEight(9);
+        WinterWalk x = Worlds.alongEight(9);
         int[] due = {0, 9, 8, 7, 6, 5, 4, 3, 2, 1, 0, 0, 1, 9, 8};
         int[] at = {0, 1, 2, 3, 4, 5, 6, 7, 6, 5, 4, 3, 2, 1, 0};
         for (int d = 0; d < due.length; d++) {
@@ -278,7 +273,7 @@ public final class GoingEdgesTest {
 
     // "in each VILLAGE to which a road leads 1 at least"
     private static void frostNextDoorIsOneAtLeast() {
-        WinterWalk x = alongEight(2);
+        WinterWalk x = Worlds.alongEight(2);
         x.days(1);
         frost(x, 1, 2, 1, 0, 0, 0, 0, 0);
         x.days(1);

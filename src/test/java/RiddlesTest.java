@@ -84,39 +84,23 @@ public final class RiddlesTest {
 
     private static void roundsAtTheirEdges() {
         // she is in 1 last on DAY 100, in 2 last on DAY 99, and in 0 and 3 from then on
-        WinterWalk x = sisterHeldBack(51, 1);
+        WinterWalk x = Worlds.sisterHeldBack(51, 1);
         Due.due("where she is", x.walker(0, 0), 2);
         Due.due("DAY 99", x.ahead(0, 100, 0), 2);
         Due.due("from DAY 100 on", x.round(0), 1 + 2 + 8);
         // in 0 she is for the first time on DAY 199, in another LAND not before DAY 200
-        Due.due("up to DAY 199", sisterHeldBack(100, 1).round(0), 1 + 2 + 4);
-        Due.due("not DAY 200", sisterHeldBack(100, 0).round(0), 2 + 4);
-    }
-
-    /** A sister who was k times in 0, and now goes from 1 to 2 until she was there as often. */
-    private static WinterWalk sisterHeldBack(int k, int more) {
-        WinterWalk x = Due.told("f1;g0,0;g0,0;g0,0;g0,0;r0,1;r1,2;r0,3;t1;");
-        x.door(2, 1);
-        x.door(3, 1);
-        for (int i = 0; i < k; i++) {
-            x.days(2);
-        }
-        x.door(2, 0);
-        x.door(3, 0);
-        if (more > 0) {
-            x.days(more);
-        }
-        return x;
+        Due.due("up to DAY 199", Worlds.sisterHeldBack(100, 1).round(0), 1 + 2 + 4);
+        Due.due("not DAY 200", Worlds.sisterHeldBack(100, 0).round(0), 2 + 4);
     }
 
     private static void frostAtItsEdges() {
         // 3 freezes when she comes to 0 again: on DAY 99, on DAY 100
-        WinterWalk in = sisterHeldBack(50, 1);
+        WinterWalk in = Worlds.sisterHeldBack(50, 1);
         Due.due("on DAY 99", in.freezes(3, 100), 99);
         Due.due("not ahead of it", in.freezes(3, 99), Due.NONE);
         Due.due("all are warned", in.warn(-1), 4);
         Due.due("it the last", in.warn(3), 3);
-        WinterWalk out = sisterHeldBack(50, 0);
+        WinterWalk out = Worlds.sisterHeldBack(50, 0);
         Due.due("on DAY 100", out.freezes(3, 100), Due.NONE);
         Due.due("three are warned", out.warn(-1), 3);
         Due.due("no fourth", out.warn(3), Due.NONE);

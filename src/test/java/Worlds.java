@@ -66,6 +66,32 @@ final class Worlds {
         return Due.told("f1;g3,4;o0;");
     }
 
+    /**
+     * A sister who was k times in 0, and now goes from 1 to 2 until she was there as
+     * often, more DAYS of which are gone: on DAY 2 k - more from now on she is in 0
+     * again, and on the next in 3 for the first time.
+     */
+    static WinterWalk sisterHeldBack(int k, int more) {
+        WinterWalk x = Due.told("f1;g0,0;g0,0;g0,0;g5,0;r0,1;r1,2;r0,3;t1;");
+        x.door(2, 1);
+        x.door(3, 1);
+        for (int i = 0; i < k; i++) {
+            x.days(2);
+        }
+        x.door(2, 0);
+        x.door(3, 0);
+        if (more > 0) {
+            x.days(more);
+        }
+        return x;
+    }
+
+    /** One who goes along eight VILLAGES, and back again. */
+    static WinterWalk alongEight(int lasts) {
+        String line = "r0,1;r1,2;r2,3;r3,4;r4,5;r5,6;r6,7;";
+        return Due.told("f" + lasts + ";" + "g0,0;".repeat(8) + line + "l0;");
+    }
+
     /** DAYS by the dozen. */
     static void pass(WinterWalk x, int days) {
         for (int left = days; left > 0; left -= 24) {
