@@ -243,13 +243,18 @@ public final class RiddleEdgesTest {
     /** What a VILLAGE has for itself by the OFFER that is there, as done. */
     private static int has(Edge.World land, int village, int n) {
         WinterWalk x = land.anew();
+        int walkers = x.count(3);
+        int worth = x.village(village, 0);
+        int offer = x.village(village, 1);
+        int[] kept = new int[walkers];
+        for (int w = 0; w < walkers; w++) {
+            kept[w] = x.kind(w) <= 3 ? worth - offer : worth;
+        }
         int sum = 0;
         for (int d = 0; d < n; d++) {
             x.days(1);
-            for (int w = 0; w < x.count(3); w++) {
-                if (x.walker(w, 0) == village) {
-                    sum += x.village(village, 0) - (x.kind(w) <= 3 ? x.village(village, 1) : 0);
-                }
+            for (int w = 0; w < walkers; w++) {
+                sum += x.walker(w, 0) == village ? kept[w] : 0;
             }
         }
         return sum;
@@ -514,14 +519,18 @@ public final class RiddleEdgesTest {
     }
 
     private static void walkYear(WinterWalk x, int n, int seed) {
+        int villages = x.count(1);
+        int[] shut = new int[villages];
+        for (int v = 0; v < villages; v++) {
+            shut[v] = x.village(v, 2);
+        }
         BigInteger drawn = BigInteger.valueOf(seed);
         for (int d = 0; d < n; d++) {
             drawn = drawn.multiply(BigInteger.valueOf(16807)).mod(BigInteger.valueOf(2147483647));
-            int v = drawn.mod(BigInteger.valueOf(x.count(1))).intValue();
-            int was = x.village(v, 2);
-            x.door(v, 1 - was);
+            int v = drawn.mod(BigInteger.valueOf(villages)).intValue();
+            x.door(v, 1 - shut[v]);
             x.days(1);
-            x.door(v, was);
+            x.door(v, shut[v]);
         }
     }
 
