@@ -352,14 +352,7 @@ public final class AskEdgesTest {
             x -> x.bid(0, 1, 0), x -> x.rests(1), x -> x.round(0), x -> x.meet(1, 0), x -> x.late(0, 1, 1, 0, 0),
             x -> x.year(1, 1, 0), x -> x.image(0), x -> x.restore(0), x -> x.kind(0), x -> x.ask(0, 0),
             x -> x.trace(0), x -> x.count(0), x -> x.status()};
-        for (int i = 0; i < calls.length; i++) {
-            WinterWalk x = Worlds.busy();
-            calls[i].on(x);
-            Due.due("status() behind call " + i, x.status(), 5);
-            x.row(0, 0, 1);
-            calls[i].on(x);
-            Due.due("none behind call " + i, x.status(), 0);
-        }
+        statusStays("call", calls);
     }
 
     // "that was not BAD, STATE, FULL"
@@ -370,13 +363,17 @@ public final class AskEdgesTest {
             x -> x.fits(0, 8, 0, 1), x -> x.fits(0, 0, 0, 25), x -> x.slept(3, 0, 0, 1, 0), x -> x.slept(0, 8, 0, 1, 0),
             x -> x.slept(0, 0, 0, 13, 0), x -> x.slept(0, 0, 0, 1, 2), x -> x.as(3, 0), x -> x.as(0, 6),
             x -> x.restore(1), x -> x.days(25), x -> x.door(3, 1)};
+        statusStays("refusal", calls);
+    }
+
+    private static void statusStays(String what, Edge.Call... calls) {
         for (int i = 0; i < calls.length; i++) {
             WinterWalk x = Worlds.busy();
             calls[i].on(x);
-            Due.due("status() behind refusal " + i, x.status(), 5);
+            Due.due("status() behind " + what + " " + i, x.status(), 5);
             x.row(0, 0, 1);
             calls[i].on(x);
-            Due.due("none behind refusal " + i, x.status(), 0);
+            Due.due("none behind " + what + " " + i, x.status(), 0);
         }
     }
 
