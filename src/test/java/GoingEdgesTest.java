@@ -550,24 +550,25 @@ public final class GoingEdgesTest {
 
     // "each can be undone, the latest first"
     private static void everySortOfActIsUndone() {
-        WinterWalk x = Worlds.busyAfterFault(2);
-        int acts = x.count(7);
-        String[] seen = new String[6];
-        for (int i = 0; i < 6; i++) {
-            seen[i] = Due.landSeen(x);
-            switch (i) {
-                case 0 -> x.days(1);
-                case 1 -> x.offer(4, 0);
-                case 2 -> x.door(4, 1);
-                case 3 -> x.door(3, 0);
-                case 4 -> x.offer(0, 20);
-                default -> x.days(1);
+        Edge.Call[] acts = {x -> x.days(1), x -> x.offer(4, 0), x -> x.door(4, 1), x -> x.door(3, 0),
+            x -> x.offer(0, 20), x -> x.days(1)};
+        int ahead = Worlds.busy().count(7);
+        for (int undone = 1; undone <= acts.length; undone++) {
+            int left = acts.length - undone;
+            WinterWalk x = busyBehind(acts, acts.length);
+            for (int i = acts.length - 1; i >= left; i--) {
+                Due.due("undo() of ACT " + i, x.undo(), ahead + i);
             }
+            Due.same("all but " + left + " undone", Everything.part(0, x), Everything.part(0, busyBehind(acts, left)));
         }
-        for (int i = 5; i >= 0; i--) {
-            Due.due("undo()", x.undo(), acts + i);
-            Due.same("as ahead of ACT " + i, Due.landSeen(x), seen[i]);
+    }
+
+    private static WinterWalk busyBehind(Edge.Call[] acts, int many) {
+        WinterWalk x = Worlds.busy();
+        for (int i = 0; i < many; i++) {
+            acts[i].on(x);
         }
+        return x;
     }
 
     private static void undoneAndDoneAnew() {

