@@ -159,28 +159,35 @@ public final class LongRunsTest {
         call("fault");
     }
 
+    /** At times with more of something than there is room for, on THE TAPE, too. */
     private String anyLand() {
         StringBuilder text = new StringBuilder("f" + (1 + random.nextInt(9)) + ";");
-        int villages = 1 + random.nextInt(8);
+        int tooMany = random.nextInt(30);
+        int villages = tooMany == 0 ? 9 : tooMany == 1 ? 8 : 1 + random.nextInt(8);
         for (int v = 0; v < villages; v++) {
             text.append(random.nextBoolean() ? 'g' : 'c').append(random.nextInt(10)).append(',');
-            text.append(random.nextInt(random.nextBoolean() ? 5 : 10)).append(';');
+            text.append(random.nextInt(random.nextBoolean() ? 5 : 21)).append(';');
         }
-        boolean[] joined = new boolean[64];
-        for (int i = 0, many = 0; i < 16 && many < 12; i++) {
+        addRoads(text, villages, tooMany == 1 ? 13 : random.nextInt(13));
+        int walkers = tooMany == 2 ? 4 : random.nextInt(8) == 0 ? 0 : 1 + random.nextInt(3);
+        for (int w = 0; w < walkers; w++) {
+            text.append("oslte".charAt(random.nextInt(5))).append(random.nextInt(villages)).append(';');
+        }
+        return text.toString();
+    }
+
+    private void addRoads(StringBuilder text, int villages, int most) {
+        boolean[] joined = new boolean[81];
+        for (int i = 0, many = 0; i < 40 && many < most; i++) {
             int a = random.nextInt(villages);
             int b = random.nextInt(villages);
-            if (a != b && !joined[a * 8 + b]) {
-                joined[a * 8 + b] = true;
-                joined[b * 8 + a] = true;
+            if (a != b && !joined[a * 9 + b]) {
+                joined[a * 9 + b] = true;
+                joined[b * 9 + a] = true;
                 text.append('r').append(a).append(',').append(b).append(';');
                 many++;
             }
         }
-        for (int w = random.nextInt(8) == 0 ? 3 : random.nextInt(3); w < 3; w++) {
-            text.append("oslte".charAt(random.nextInt(5))).append(random.nextInt(villages)).append(';');
-        }
-        return text.toString();
     }
 
     /** A ROW of where one would sleep, were it of some KIND, mostly right; then FITS. */
