@@ -7,10 +7,11 @@ import java.util.Set;
 import java.util.function.Predicate;
 
 /**
- * The whole document written a second time, as plainly as it can be said and without
- * a look at the class: every call by its name. Nothing is saved or shortened here: an
- * ACT keeps a whole LAND, what is foretold is walked on a copy, cases are all gone
- * through one by one.
+ * The whole document written a second time, as plainly as it can be said: every call
+ * by its name. Nothing is saved or shortened here: an ACT keeps a whole LAND, what is
+ * foretold is walked on a copy, cases are all gone through one by one. Where the
+ * document leaves a choice (NOTES.md) this makes the same one as the class, so it says
+ * nothing on whether that was the right one.
  */
 final class SecondWriting {
     private static final int NONE = -1000000, BAD = -1000001, STATE = -1000002, FULL = -1000003;
